@@ -164,12 +164,17 @@ public final class PromiseTests {
         is("turns anew", x.person(1, 5), 0);
         is("cannot anew", x.person(1, 2), 0);
         is("visitors anew", x.day(1, 2), 0);
+        is("visitors anew", tell(x, "team t;person p team t days 1;likes p mon 3;visit mon 4 100;meet t;"), 5);
+        is("house anew", tell(x, "team t;person p team t days 1;person q team t days 1;"), 3);
+        is("house anew", tell(x, "team t;person p team t days 1;person q team t days 1;"), 3);
+        is("visitors anew", x.day(0, 2), 0);
+        is("meet anew", x.has(8), 0);
         x.put(0, 31);
         is("likes, ties and rules anew", x.worth(), 0);
         is("refusals stay", x.status(1), 2);
         DeskDays y = told("team t;visit mon 9 50;");
         y.seed(99);
-        x.put(0, 0);
+        tell(x, "visit mon 9 50;");
         is("the seed stays", x.draw(0), y.draw(0));
         is("blanks", tell(x, "\n team\na\n;\n\nteam b ;"), 2);
         is("none between signs", tell(x, "team a;person b team a days 1;worth(1+2)when[many=1]or not[all];"), 3);
@@ -345,6 +350,9 @@ public final class PromiseTests {
         marked(5, "worth " + times(8, "(") + "^(1;");
         marked(5, "worth 1 when " + times(8, "[") + "^[");
         marked(5, "worth 1 when [[[[((((min^(1,2)))))=1]]]];");
+        marked(5, "worth max(max(max(max(max(max(max(max(1,max^(1,1)");
+        told("worth max(1,max(2,max(3,max(4,max(5,max(6,max(7,max(8,9)))))))) when all;");
+        told("worth max(max(max(max(max(max(max(max(9,8),7),6),5),4),3),2),1) when all;");
         marked(1, "worth " + times(8, "(") + "^[");
         marked(1, "worth 1 when " + times(8, "[") + "min ^1");
         is("open one after the other", told("worth " + times(20, "(1)+") + "1 when all;").has(6), 1);
@@ -355,6 +363,7 @@ public final class PromiseTests {
         DeskDays x = told(HOUSE);
         int[] all = {3, 3, 4, 4, 5, 1, 2, 20, 2};
         for (int what = 0; what < all.length; what++) is("has " + what, x.has(what), all[what]);
+        is("meet of the first team", told("team a;team b;meet a;").has(8), 1);
         is("has 9", x.has(9), -1);
         is("has -1", x.has(-1), -1);
         is("has least", x.has(Integer.MIN_VALUE), -1);
@@ -481,6 +490,11 @@ public final class PromiseTests {
         x.put(1, 3);
         x.put(0, 24);
         judged(x, 1, 0, 4);
+        DeskDays several = told(crowd(9, 1, 3) + "cannot pb thu;cannot pb mon;cannot pb fri;");
+        several.put(1, 31);
+        judged(several, 1, 1, 0);
+        several.put(1, 30);
+        judged(several, 1, 1, 3);
         x.put(0, 3);
         judged(x, 1, 1, 1);
         x.put(1, 9);
@@ -490,6 +504,9 @@ public final class PromiseTests {
         judged(x, 4, 1, -1);
         x.put(2, 0);
         judged(x, 2, 2, -1);
+        x.put(2, 21);
+        x.put(0, 0);
+        judged(x, 2, 0, -1);
         DeskDays y = told(crowd(2, 1, 1, 1, 1) + "meet t;");
         for (int p = 0; p < 4; p++) y.put(p, p < 3 ? 4 : 1);
         judged(y, 3, 2, -1);
@@ -624,6 +641,22 @@ public final class PromiseTests {
         is("worth", x.worth(), 15);
         is("none left", x.better(2000), 0);
         is("status", x.status(3), 3);
+        x = told(crowd(3, 1) + "likes pa mon 1;");
+        x.put(0, 2);
+        is("to mon", x.better(1), 1);
+        x = told(crowd(3, 1, 1) + "likes pb wed 1;tie pa pb 2;");
+        x.put(0, 1);
+        x.put(1, 2);
+        is("pa to tue, pb stays", x.better(2000), 1);
+        // pb goes to fri with the 8th, then it begins anew: pa mon to thu (4), pb again (4), pc to tue with the next
+        x = told(crowd(3, 1, 1, 1) + "likes pb fri 1;likes pc tue 1;");
+        for (int p = 0; p < 3; p++) x.put(p, 1);
+        is("7 tries", x.better(7), 0);
+        is("16 tries", x.better(8 + 8), 1);
+        sets(x, "pb", 1, 16, 1);
+        x.put(1, 1);
+        is("17 tries", x.better(8 + 8 + 1), 2);
+        sets(x, "pb, pc", 1, 16, 2);
     }
 
     private static void both() {
@@ -678,6 +711,11 @@ public final class PromiseTests {
         is("without days: the first of like ones", x.should(0), 1);
         is("all", x.should(1), 4);
         is("persons with ties", x.should(2), 3);
+        is("the first one", told(crowd(9, 1, 1) + "tie pa pb 8;tie pa pb 8;").should(0), 0);
+        DeskDays y = told(crowd(9, 1, 1, 1) + "tie pa pb 1;tie pb pc 1;tie pc pa 1;");
+        y.put(0, 1);
+        y.put(1, 1);
+        is("pc alone", y.should(2), 1);
         x.put(1, 3);
         x.put(2, 2);
         is("greatest", x.should(0), 2);
@@ -916,6 +954,17 @@ public final class PromiseTests {
         is("exchanges", x.fit(0, 2), 1);
         is("the first two", x.seat(0, 0), 0);
         is("the first two", x.seat(0, 2), 1);
+        // p sits on b, q by its tie with it too, r alone on a; s goes to r for 6 less 5, not above 0 of b, were it free
+        x = seatedOn("tie q p 1;tie r s 6;", 1, 1, 1, 1, 0);
+        is("seated by ties", x.fit(0, 0), 1 + 6 - 10);
+        is("none to exchange", x.fit(0, 2), 0);
+        // q would rather be with p (own desk on a) by 6 less 5, r not by 5 less 5: the first of like ones is a, but it is full then
+        x = seatedOn("own p a;tie p q 6;tie r p 5;tie s r 4;", 1, 1, 1, 1, 0);
+        is("seated by ties", x.fit(0, 0), 6 + 4 - 10);
+        is("q is with p", x.seat(0, 1), 0);
+        is("s is with r", x.seat(0, 3), 1);
+        x = seatedOn("own p a;tie q p 4;tie r p 6;", 1, 1, 1, 0, 0);
+        is("q is on b, r is with p", x.fit(0, 0), 6 - 10);
         x = seatedOn("own p b;tie p s 9;own q b;tie q r 9;", 1, 1, 1, 1, 0);
         is("own desks are not exchanged", x.fit(0, 2), 0);
     }
@@ -936,6 +985,7 @@ public final class PromiseTests {
         is("no such", y.shut(-1), -1);
         DeskDays z = seatedOn("own s b;own u b;", 0, 0, 0, 0, 0);
         is("owners away", z.shut(0), 0);
+        is("the first one owns", seatedOn("own p a;", 1).shut(0), 1);
         z.put(0, 1);
         is("own desks of others are not free", z.shut(0), 1);
     }
@@ -1095,6 +1145,74 @@ public final class PromiseTests {
         for (int what = 0; what < 6; what++) is("no others count " + what, x.status(what), due[what]);
     }
 
+    /** No call may fail in a house that has all it may have, nor by any argument. */
+    private static void fullHouse() {
+        promise = 42;
+        StringBuilder s = new StringBuilder();
+        for (char c = 'a'; c < 'f'; c++) s.append("floor f").append(c).append(" desks 2 noise 1 cost 1;");
+        for (char c = 'a'; c < 'g'; c++) s.append("team t").append(c).append(";meet t").append(c).append(";");
+        for (char c = 'a'; c < 'm'; c++) s.append("person p").append(c).append(" team tf days 2;");
+        for (int k = 0; k < 30; k++) s.append("tie p").append((char) ('a' + k % 12)).append(" p").append((char) ('a' + (k + 1 + k / 12) % 12)).append(" 9;");
+        for (int k = 0; k < 12; k++) s.append("worth many+").append(k).append(" when day*9>70;");
+        for (String day : new String[] {"mon", "tue", "wed", "thu", "fri"}) s.append("visit ").append(day).append(" 9 50;");
+        DeskDays x = told(s.toString());
+        int[] counts = {5, 6, 12, 30, 10, 0, 12, 50, 6};
+        for (int what = 0; what < counts.length; what++) is("has " + what, x.has(what), counts[what]);
+        int[] some = {Integer.MIN_VALUE, -2, -1, 0, 1, 2, 4, 5, 6, 9, 11, 12, 29, 30, 31, 32, 40, 60, 100, 101, 2000, Integer.MAX_VALUE};
+        int[][] plans = {{0}, {31}, {3}, {1, 2, 4, 8, 16}};
+        for (int[] plan : plans) {
+            for (int p = 0; p < 12; p++) x.put(p, plan[p % plan.length]);
+            for (int a : some) callAll(x, a, some);
+        }
+        is("all 12 in", x.image(), 14);
+    }
+    private static void callAll(DeskDays x, int a, int[] some) {
+        x.seek();
+        x.spent();
+        x.weeks();
+        x.worth();
+        x.fault(a);
+        x.has(a);
+        x.met(a);
+        x.judge(a);
+        x.should(a);
+        x.bound(a > 0);
+        x.stairs(a);
+        x.draw(a);
+        x.seed(a);
+        x.alone(a);
+        x.shut(a);
+        x.never(a);
+        x.grow(a);
+        x.move(a);
+        x.octet(a);
+        x.status(a);
+        x.better(a);
+        x.free(a);
+        x.end(a);
+        x.feed(a, a, a, a, a);
+        x.row();
+        x.on();
+        x.house();
+        x.end(0);
+        for (int b : some) {
+            x.person(a, b);
+            x.floor(a, b);
+            x.put(a, b);
+            x.day(a, b);
+            x.both(a, b);
+            x.trade(a, b);
+            x.likely(a, b);
+            x.enough(a, b);
+            x.seat(a, b);
+            x.fit(a, b);
+            x.letter(a, b, a);
+            x.letter(2, a, b);
+            x.over(50, a, b);
+            x.over(a, 5, b);
+        }
+    }
+
     private static void run(int number) {
         promise = number;
         switch (number) {
@@ -1145,6 +1263,7 @@ public final class PromiseTests {
 
     public static void main(String[] args) {
         for (int number = 1; number <= 42; number++) run(number);
+        fullHouse();
         System.out.println("promise tests: " + checks + " answers, " + wrong + " not as due");
         if (wrong != 0) System.exit(1);
     }

@@ -84,7 +84,7 @@ public final class RandomRuns {
                 return persons < 2 ? "stand 3" : "tie " + who + " " + other(who, persons) + " " + below(chance(60) ? 10 : 100);
             case 7: return "comes " + who + " " + below(101);
             case 8: return "visit " + when + " " + below(10) + " " + below(101);
-            case 9: return chance(50) ? "own " + who + " " + name("f", below(floors)) : "turns " + who + " " + below(5);
+            case 9: return chance(30) ? "own " + who + " " + name("f", below(floors)) : "turns " + who + " " + below(5);
             case 10: return "meet " + name("t", below(teams));
             case 11: return "turns " + who + " " + below(5);
             case 12: return "stand " + below(chance(60) ? 20 : 1000);
@@ -95,7 +95,35 @@ public final class RandomRuns {
         String one = name("p", below(persons));
         return one.equals(who) ? name("p", (one.charAt(1) - 'a' + 1) % persons) : one;
     }
+    /** All that a house may have, and at times one more. */
+    private String fullHouse() {
+        StringBuilder s = new StringBuilder();
+        for (int f = 0; f < 5; f++) s.append("floor ").append(name("f", f)).append(" desks ").append(below(5)).append(" noise ").append(below(9)).append(" cost 9;");
+        for (int t = 0; t < 6; t++) s.append("team ").append(name("t", t)).append(";");
+        for (int p = 0; p < 12; p++) s.append("person ").append(name("p", p)).append(" team ").append(name("t", below(6))).append(" days ").append(1 + below(3)).append(";");
+        for (int k = 0; k < 30; k++) {
+            String who = name("p", below(12));
+            s.append("tie ").append(who).append(" ").append(other(who, 12)).append(" ").append(below(30)).append(";");
+        }
+        for (int k = 0; k < 12; k++) s.append("worth ").append(below(20)).append("-many when day=").append(below(5)).append(oneOf(" and person%3=1;", " and crew<3;", ";"));
+        if (chance(30)) s.append(oneOf("floor x desks 1 noise 1 cost 1;", "team x;", "person x team ta days 1;", "tie pa pb 1;", "worth 1 when all;"));
+        return s.toString();
+    }
+    /** The text with one of its words or numbers put where another one stands. */
+    private String mixed(String text) {
+        String[] parts = text.split("(?<=[ ;])|(?=[ ;])");
+        parts[below(parts.length)] = parts[below(parts.length)];
+        return String.join("", parts);
+    }
+    private String nested(String text) {
+        String sum = "1", test = "all";
+        for (int k = below(11); k > 0; k--) sum = oneOf("(" + sum + ")", "min(" + sum + ",day)", "max(2," + sum + ")", "1+(" + sum + "*2)");
+        for (int k = below(11); k > 0; k--) test = oneOf("[" + test + "]", "not[" + test + " and day=1]", "[many=2 or " + test + "]");
+        return text + "worth " + sum + " when " + test + oneOf(";", " and " + sum + "<3;");
+    }
     private String spoiled(String text) {
+        if (chance(40)) return mixed(text);
+        if (chance(20) && text.length() < 1300) return nested(text);
         int at = below(text.length() + 1);
         int to = Math.min(text.length(), at + below(4));
         switch (below(3)) {
@@ -210,7 +238,7 @@ public final class RandomRuns {
     private int run() {
         for (int k = 0; k < 5; k++) call();
         for (int told = 0; told < 3; told++) {
-            String text = house();
+            String text = chance(15) ? fullHouse() : house();
             for (int k = below(3); k > 0; k--) tell(spoiled(text));
             tell(text);
             if (chance(70)) same("seek", due.seek(), model.seek());
