@@ -87,8 +87,10 @@ public final class DeskDays {
         return true;
     }
 
+    /** The tape goes with a fault too: what stays then is the house and its plan. */
     public int house() {
         statements.begin(spare, taped);
+        taped = 0;
         for (int k = 0; k < TAPE_LIMIT && !statements.reader.isOver(); k++) {
             statements.readNext();
         }
@@ -101,7 +103,6 @@ public final class DeskDays {
         House read = spare;
         spare = plan.house;
         plan.begin(read);
-        taped = 0;
         return statements.count;
     }
 
@@ -226,6 +227,7 @@ public final class DeskDays {
         return true;
     }
 
+    /** Refused, it does nothing: the tape stays, unlike that of house() and on(). */
     public boolean row() {
         int persons = plan.house.people.count;
         if (taped != persons || !areSets(0)) {
@@ -233,6 +235,7 @@ public final class DeskDays {
             return false;
         }
         takeSets(0);
+        taped = 0;
         return true;
     }
 
@@ -253,7 +256,6 @@ public final class DeskDays {
         for (int person = 0; person < persons && from + person < tape.length; person++) {
             plan.sets[person] = tape[from + person];
         }
-        taped = 0;
     }
 
     public int day(int day, int what) {
@@ -506,13 +508,16 @@ public final class DeskDays {
         return isBelow(k, writtenSize) ? written[k] : NONE;
     }
 
+    /** The tape goes if it is no image too: what stays then is the plan. */
     public boolean on() {
-        if (!isImage()) {
+        boolean isTaken = isImage();
+        if (isTaken) {
+            takeSets(1);
+        } else {
             refuse(REFUSED_IMAGE);
-            return false;
         }
-        takeSets(1);
-        return true;
+        taped = 0;
+        return isTaken;
     }
 
     private boolean isImage() {

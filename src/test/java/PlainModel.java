@@ -294,11 +294,12 @@ final class PlainModel {
         return true;
     }
     int house() {
+        String text = tape;
+        tape = "";
         try {
-            Told next = new Parser(tape).all();
+            Told next = new Parser(text).all();
             told = next;
             plan = new int[told.persons.size()];
-            tape = "";
             faultKind = 0;
             faultPlace = -1;
             return told.statements;
@@ -728,12 +729,12 @@ final class PlainModel {
     int octet(int k) { return k >= 0 && k < image.size() ? image.get(k) : -1; }
     boolean on() {
         List<Integer> bytes = tape.chars().boxed().toList();
+        tape = "";
         int n = plan.length;
         if (bytes.size() != n + 2 || bytes.get(0) != n || bytes.get(n + 1) != check(bytes.subList(0, n + 1))) return not(5);
         int[] sets = bytes.subList(1, n + 1).stream().mapToInt(b -> b).toArray();
         if (Arrays.stream(sets).anyMatch(s -> s > 31)) return not(5);
         plan = sets;
-        tape = "";
         return true;
     }
     int status(int what) { return what >= 0 && what < 6 ? refusals[what] : -1; }

@@ -149,13 +149,16 @@ public final class PromiseTests {
         x.seed(99);
         String wrongText = "team t; team t;";
         is("fault", tell(x, wrongText), -1);
-        is("the tape stays with a fault", x.end(wrongText.length()), true);
+        is("the tape went with a fault", x.end(1), false);
         is("persons stay", x.has(2), 4);
         is("the plan stays", x.person(0, 6), 3);
         is("rules stay", x.has(6), 2);
         is("refusals", x.status(1), 1);
-        is("the same text again", x.house(), -1);
+        is("fault again", tell(x, wrongText), -1);
         is("refusals", x.status(1), 2);
+        is("what is fed comes first", x.feed(0x7465616d, 0x20743b20, 0x20202020, 0x20202020, 0x20202020), 20);
+        is("what is fed is told alone", x.house(), 1);
+        is("no persons now", x.has(2), 0);
         is("house anew", tell(x, "team t;person p team t days 1;person q team t days 1;visit mon 9 50;"), 4);
         is("the plan is empty", x.person(0, 6), 0);
         for (int what = 0; what <= 8; what++) is("has " + what, x.has(what), new int[] {0, 1, 2, 0, 0, 0, 0, 50, 0}[what]);
@@ -439,6 +442,7 @@ public final class PromiseTests {
         tape(x, bytes(1, 1, 1, 32));
         is("not a set", x.row(), false);
         is("nothing done to the tape", x.end(4), true);
+        is("nothing done to the tape", x.feed(0, 0, 0, 0, 0), 24);
         tape(x, bytes(255, 1, 1, 1));
         is("not a set", x.row(), false);
         sets(x, "refused", 1, 2, 31, 0);
@@ -1105,7 +1109,7 @@ public final class PromiseTests {
         for (String one : wrongOnes) {
             tape(x, one);
             is("not an image", x.on(), false);
-            is("the tape stays", x.end(one.length()), true);
+            is("the tape went, no image though", x.feed(0, 0, 0, 0, 0), 20);
         }
         sets(x, "stays", 31, 0, 7, 9);
         is("status", x.status(5), wrongOnes.length);
@@ -1129,7 +1133,6 @@ public final class PromiseTests {
         tell(x, "y");
         int[] due = {1, 2, 2, 1, 1, 3};
         x.house();
-        due[1]++;
         for (int what = 0; what < 6; what++) is("status " + what, x.status(what), due[what]);
         is("other", x.status(6), -1);
         is("other", x.status(-1), -1);
@@ -1193,8 +1196,9 @@ public final class PromiseTests {
         x.feed(a, a, a, a, a);
         x.row();
         x.on();
+        // house() on the empty tape that on() leaves would be a house of nobody.
+        x.feed(a, a, a, a, a);
         x.house();
-        x.end(0);
         for (int b : some) {
             x.person(a, b);
             x.floor(a, b);

@@ -191,6 +191,17 @@ public final class RandomRuns {
         same("on", due.on(), model.on());
     }
 
+    /** What is on the tape, whatever it is, taken by one of those that take it, or more behind it. */
+    private void taken() {
+        switch (below(5)) {
+            case 0: same("house", due.house(), model.house()); break;
+            case 1: same("row", due.row(), model.row()); break;
+            case 2: same("on", due.on(), model.on()); break;
+            case 3: { int n = anything(40); same("end " + n, due.end(n), model.end(n)); break; }
+            default: feed(oneOf("team x;", "stand 7;", "team", ";", oneOf(SCRAPS))); break;
+        }
+    }
+
     private void call() {
         int p = person(), q = person(), d = day();
         switch (below(44)) {
@@ -243,6 +254,9 @@ public final class RandomRuns {
             tell(text);
             if (chance(70)) same("seek", due.seek(), model.seek());
             for (int k = 0; k < 60; k++) call();
+            // An empty tape is an empty house, so this comes last.
+            for (int k = below(12); k > 0; k--) taken();
+            for (int what = 0; what < 6; what++) same("status " + what, due.status(what), model.status(what));
         }
         if (chance(10)) for (int k = 0; k < 100; k++) same("feed", due.feed(k, -k, 7, k << 24, -1), model.feed(k, -k, 7, k << 24, -1));
         return wrong;
