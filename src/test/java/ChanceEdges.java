@@ -174,6 +174,8 @@ final class ChanceEdges {
         over("n 39, 99 of 100: 39 by 66", 99, 39, 66, 39);
         over("two of a half: by 25", 50, 1, 25, 2);
         over("two of a half: not by 24", 50, 1, 24, 1);
+        over("a half, less what is cut, by 50", 50, 6, 50, 13);
+        over("a half, less what is cut, not by 49", 50, 6, 49, 12);
         over("so little likely that it is 0", 1, 6, 0, overOf(1, 6, 0));
         Edges.test("as reckoned anew, for some of all", () -> {
             DeskDays x = new DeskDays();

@@ -467,6 +467,8 @@ final class SearchEdges {
             DeskDays x = Edges.planned(Edges.crowd(12, Edges.alike(12, 2)) + "likes pk fri 1;likes pk thu 1;likes pl fri 1;likes pl thu 1;", Edges.alike(12, 3));
             Edges.is("both", x.both(10, 11), 4);
             Edges.sets(x, 3, 3, 3, 3, 3, 3, 3, 3, 3, 3, 24, 24);
+            Edges.is("the other way round", x.both(11, 10), 4);
+            Edges.sets(x, 3, 3, 3, 3, 3, 3, 3, 3, 3, 3, 24, 24);
         });
         Edges.says("NOTHING (-10 to the 9), THE PLAN staying, if there is none such, or they are not two");
         Edges.test("none holds as another's set is wrong", () -> Edges.leaves(Edges.OF_NONE, () -> {

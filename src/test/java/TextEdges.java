@@ -43,6 +43,9 @@ final class TextEdges {
         Edges.test("a name of 6 letters", () -> Edges.is("letter 5", Edges.told("team abcdez;").letter(1, 0, 5), 'z'));
         Edges.test("names of 6 letters that differ in the last one", () -> Edges.taken("team abcdef;team abcdeg;", 2));
         Edges.test("names of 6 letters that differ in the first one", () -> Edges.taken("team abcdef;team bbcdef;", 2));
+        Edges.test("names of 6 letters that differ in the first one, each of a .. z", () -> {
+            for (char c = 'b'; c <= 'z'; c++) Edges.taken("team abcdef;team " + c + "bcdef;", 2);
+        });
         Edges.test("a name that begins another one", () -> Edges.taken("team abcde;team abcdef;team a;", 3));
         Edges.test("a 7th letter", () -> Edges.fault(1, "team abcdef^g;"));
         Edges.test("an 8th letter is behind the 7th", () -> Edges.fault(1, "team abcdef^gh;"));
@@ -911,6 +914,13 @@ final class TextEdges {
             Edges.is("a", Edges.told(text).letter(1, 0, 0), 97);
             Edges.is("z", Edges.told(text).letter(2, 0, 0), 122);
         });
+        for (String name : new String[] {"a", "z", "az", "za", "aaaaaa", "zzzzzz", "azazaz", "zazaza", "pppppp"}) {
+            Edges.test("all of " + name, () -> {
+                DeskDays x = Edges.told("team " + name + ";");
+                for (int k = 0; k < name.length(); k++) Edges.is("letter " + k, x.letter(1, 0, k), name.charAt(k));
+                Edges.is("behind", x.letter(1, 0, name.length()), -1);
+            });
+        }
         Edges.test("the last of 6", () -> Edges.is("letter", Edges.told(text).letter(1, 0, 5), 'f'));
         Edges.test("the last person's", () -> Edges.is("letter", Edges.told(text).letter(2, 1, 1), 'y'));
         Edges.says("NONE if there is none such");
